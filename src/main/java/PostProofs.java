@@ -303,7 +303,6 @@ public final class PostProofs {
         return product;
     }
 
-    /** The greatest number up to b that divides both; b is above 0. */
     private static int commonDivisor(int a, int b) {
         for (int divisor = b; divisor > 1; divisor--) {
             if (a % divisor == 0 && b % divisor == 0) {
@@ -401,7 +400,7 @@ public final class PostProofs {
             return count;
         }
 
-        /** Whether p is the least of a set of posts, given as bits, that p is in. */
+        /** Of a set that p is in, given as bits: each set has just one least post, so that it is met but once. */
         static boolean isLeast(int p, int set) {
             return (set & ((1 << p) - 1)) == 0;
         }
@@ -477,7 +476,7 @@ public final class PostProofs {
         }
     }
 
-    /** Goes through all proofs with small numbers, post 0's least first. */
+    /** Goes through all proofs with small numbers, post 0's least first; leaves those that can't stand early. */
     private static final class Trial {
         final int[] numbers = new int[MOST_POSTS];
         int standing;
@@ -713,7 +712,7 @@ public final class PostProofs {
                 if (next == state) {
                     continue;
                 }
-                if (looked[next] == NONE) {
+                if (looked[next] == NONE && height + 1 < MOST_STATES) {
                     // Looked at once more when the next one is closed, so that its way is known then.
                     looked[state] = p;
                     height++;
