@@ -1,104 +1,9 @@
 /** Each promise of the document on nets small enough to be worked out by hand. */
-public final class PromisesTest {
-    private static final int NONE = -1, UNKNOWN = -101, OUTSIDE = -102, STATE = -103;
+public final class PromisesTest extends NetTest {
     private static final int[] NO_POST = {-1, 4, 8, 31, 32, 64, Integer.MIN_VALUE, Integer.MAX_VALUE};
 
-    private static int wrong = 0;
-    private static int promise = 0;
-
-    private static void due(String what, long got, long want) {
-        if (got != want) {
-            wrong++;
-            System.out.println("promise " + promise + ": " + what + " answered " + got + ", due is " + want);
-        }
-    }
-
-    /** A net with the lines given as pairs. */
-    private static PostProofs net(int n, int... ends) {
-        PostProofs x = new PostProofs();
-        x.posts(n);
-        for (int i = 0; i + 1 < ends.length; i += 2) {
-            x.line(ends[i], ends[i + 1], true);
-        }
-        return x;
-    }
-
-    private static PostProofs path(int n) {
-        PostProofs x = net(n);
-        for (int p = 1; p < n; p++) {
-            x.line(p - 1, p, true);
-        }
-        return x;
-    }
-
-    private static PostProofs ring(int n) {
-        PostProofs x = path(n);
-        x.line(n - 1, 0, true);
-        return x;
-    }
-
-    private static PostProofs full(int n) {
-        PostProofs x = net(n);
-        for (int p = 0; p < n; p++) {
-            for (int q = 0; q < p; q++) {
-                x.line(p, q, true);
-            }
-        }
-        return x;
-    }
-
-    private static PostProofs with(PostProofs x, int scheme, int... marks) {
-        x.scheme(scheme);
-        for (int p = 0; p < marks.length; p++) {
-            x.mark(p, marks[p]);
-        }
-        return x;
-    }
-
-    private static void give(PostProofs x, int... numbers) {
-        for (int p = 0; p < numbers.length; p++) {
-            x.proof(p, numbers[p]);
-        }
-    }
-
-    private static void set(PostProofs x, int... distances) {
-        for (int p = 0; p < distances.length; p++) {
-            x.distance(p, distances[p]);
-        }
-    }
-
-    private static void dueProof(String what, PostProofs x, int... numbers) {
-        for (int p = 0; p < numbers.length; p++) {
-            due(what + ", number of " + p, x.proof(p, numbers[p]), numbers[p]);
-        }
-    }
-
-    private static void dueDistances(String what, PostProofs x, int... distances) {
-        for (int p = 0; p < distances.length; p++) {
-            due(what + ", distance of " + p, x.distance(p, distances[p]), distances[p]);
-        }
-    }
-
-    private static long digestOf(long... numbers) {
-        long h = 197;
-        for (long number : numbers) {
-            h = 31 * h + number;
-        }
-        return h;
-    }
-
-    /** A net of four posts in which everything has been set. */
-    private static PostProofs busy() {
-        PostProofs x = with(net(4, 0, 1, 1, 2, 0, 3), 1, 1, 0, 2, 3);
-        give(x, 0, 1, 2, 63);
-        set(x, 4, 3, 2, 1);
-        x.tryAll(2);
-        x.longest();
-        return x;
-    }
-
     private static void newObject() {
-        promise = 1;
+        about = "promise 1";
         PostProofs x = new PostProofs();
         int[] counts = {1, 0, 0, 0, 0, 0};
         for (int what = 0; what < counts.length; what++) {
@@ -113,7 +18,7 @@ public final class PromisesTest {
     }
 
     private static void posts() {
-        promise = 2;
+        about = "promise 2";
         PostProofs x = busy();
         long before = x.digest();
         for (int n : new int[] {0, -1, 9, 10, Integer.MIN_VALUE, Integer.MAX_VALUE}) {
@@ -136,7 +41,7 @@ public final class PromisesTest {
     }
 
     private static void line() {
-        promise = 3;
+        about = "promise 3";
         PostProofs x = net(4);
         due("line(0, 3, false)", x.line(0, 3, false), 0);
         due("line(0, 3, true)", x.line(0, 3, true), 0);
@@ -161,7 +66,7 @@ public final class PromisesTest {
     }
 
     private static void mark() {
-        promise = 4;
+        about = "promise 4";
         PostProofs x = net(4);
         int was = 0;
         for (int v : new int[] {1, 3, 2, 0, 0, 3}) {
@@ -181,7 +86,7 @@ public final class PromisesTest {
     }
 
     private static void scheme() {
-        promise = 5;
+        about = "promise 5";
         PostProofs x = net(2);
         int was = 0;
         for (int k : new int[] {4, 3, 2, 1, 0, 0, 2}) {
@@ -196,7 +101,7 @@ public final class PromisesTest {
     }
 
     private static void holds() {
-        promise = 6;
+        about = "promise 6";
         for (int n = 3; n <= 8; n++) {
             due("two colours, ring of " + n, with(ring(n), 0).holds(), n % 2 == 0 ? 1 : 0);
             due("three colours, ring of " + n, with(ring(n), 1).holds(), 1);
@@ -239,7 +144,7 @@ public final class PromisesTest {
     }
 
     private static void sets() {
-        promise = 7;
+        about = "promise 7";
         due("sets() without lines", net(8).sets(), 8);
         due("sets() of a path", path(8).sets(), 1);
         due("sets() of a ring", ring(5).sets(), 1);
@@ -253,7 +158,7 @@ public final class PromisesTest {
     }
 
     private static void far() {
-        promise = 8;
+        about = "promise 8";
         PostProofs x = path(8);
         for (int a = 0; a < 8; a++) {
             for (int b = 0; b < 8; b++) {
@@ -276,7 +181,7 @@ public final class PromisesTest {
     }
 
     private static void proof() {
-        promise = 9;
+        about = "promise 9";
         PostProofs x = net(4);
         int was = 0;
         for (int v : new int[] {63, 0, 1, 32, 32, 7}) {
@@ -295,12 +200,8 @@ public final class PromisesTest {
         due("digest() behind refusals", x.digest(), before);
     }
 
-    private static void dueAccepts(String what, PostProofs x, int p, int want) {
-        due(what + ": accepts(" + p + ")", x.accepts(p), want);
-    }
-
     private static void accepts() {
-        promise = 10;
+        about = "promise 10";
         for (int v = 0; v < 64; v++) {
             for (int scheme = 0; scheme < 5; scheme++) {
                 PostProofs x = with(net(8), scheme);
@@ -400,7 +301,7 @@ public final class PromisesTest {
     }
 
     private static void against() {
-        promise = 11;
+        about = "promise 11";
         PostProofs x = net(8);
         due("against()", x.against(), 0);
         give(x, 2, 0, 0, 5, 1, 0, 0, 63);
@@ -415,7 +316,7 @@ public final class PromisesTest {
     }
 
     private static void prove() {
-        promise = 12;
+        about = "promise 12";
         PostProofs x = with(net(5, 0, 3, 3, 1, 2, 4), 0);
         due("prove()", x.prove(), 1);
         dueProof("two colours", x, 0, 0, 0, 1, 1);
@@ -455,7 +356,7 @@ public final class PromisesTest {
     }
 
     private static void tryAll() {
-        promise = 13;
+        about = "promise 13";
         due("tryAll(1), ring of four", with(ring(4), 0).tryAll(1), 0);
         due("tryAll(2), ring of four", with(ring(4), 0).tryAll(2), 2);
         due("tryAll(17), ring of four", with(ring(4), 0).tryAll(17), 2);
@@ -519,7 +420,7 @@ public final class PromisesTest {
     }
 
     private static void attempt() {
-        promise = 14;
+        about = "promise 14";
         PostProofs x = with(path(3), 1);
         int[][] stand = {{0, 1, 0}, {0, 1, 2}, {0, 2, 0}, {0, 2, 1}, {1, 0, 1}, {1, 0, 2}, {1, 2, 0}, {1, 2, 1},
             {2, 0, 1}, {2, 0, 2}, {2, 1, 0}, {2, 1, 2}};
@@ -547,7 +448,7 @@ public final class PromisesTest {
     }
 
     private static void numbers() {
-        promise = 15;
+        about = "promise 15";
         due("numbers() without lines", with(net(3), 0).numbers(), 1);
         due("numbers() of two colours", with(path(3), 0).numbers(), 2);
         due("numbers() where two do", with(path(3), 1).numbers(), 2);
@@ -568,7 +469,7 @@ public final class PromisesTest {
     }
 
     private static void slip() {
-        promise = 16;
+        about = "promise 16";
         int[] above = {1, 9, 4, 7, 3, 1, 2, 3, 1, 1, 0};
         int[] below = {1, 10, 5, 10, 5, 2, 5, 10, 5, 10, 1};
         for (int wrongs = 0; wrongs <= 8; wrongs++) {
@@ -597,7 +498,7 @@ public final class PromisesTest {
     }
 
     private static void distance() {
-        promise = 17;
+        about = "promise 17";
         PostProofs x = net(4);
         int was = 0;
         for (int v : new int[] {4, 0, 1, 3, 3, 2}) {
@@ -617,7 +518,7 @@ public final class PromisesTest {
     }
 
     private static void restless() {
-        promise = 18;
+        about = "promise 18";
         PostProofs x = path(6);
         due("restless() at first", x.restless(), 62);
         set(x, 0, 1, 2, 3, 4, 4);
@@ -633,7 +534,7 @@ public final class PromisesTest {
     }
 
     private static void move() {
-        promise = 19;
+        about = "promise 19";
         PostProofs x = path(3);
         long before = x.digest();
         for (int p : NO_POST) {
@@ -659,7 +560,7 @@ public final class PromisesTest {
     }
 
     private static void mend() {
-        promise = 20;
+        about = "promise 20";
         PostProofs x = path(3);
         due("mend() of a path", x.mend(), 2);
         dueDistances("mend()", x, 0, 1, 2);
@@ -688,7 +589,7 @@ public final class PromisesTest {
     }
 
     private static void longest() {
-        promise = 21;
+        about = "promise 21";
         PostProofs x = path(3);
         due("longest() of a path", x.longest(), 3);
         dueDistances("behind longest()", x, 0, 0, 0);
@@ -728,7 +629,7 @@ public final class PromisesTest {
     }
 
     private static void shortest() {
-        promise = 22;
+        about = "promise 22";
         PostProofs x = path(3);
         due("shortest() of a path", x.shortest(), 2);
         dueDistances("behind shortest()", x, 0, 0, 0);
@@ -744,7 +645,7 @@ public final class PromisesTest {
     }
 
     private static void count() {
-        promise = 23;
+        about = "promise 23";
         PostProofs x = with(net(5, 0, 1, 1, 2, 4, 0), 3, 1, 2, 3, 1, 0);
         x.tryAll(2);
         x.attempt(2, 0);
@@ -767,7 +668,7 @@ public final class PromisesTest {
     }
 
     private static void digest() {
-        promise = 24;
+        about = "promise 24";
         due("digest()", busy().digest(),
             digestOf(4, 1, 0, 4, 1, 0, 1, 0, 1, 3, 1, 0, 2, 2, 2, 0, 3, 63, 1, 1, 1, 1));
         PostProofs x = net(8);
@@ -808,9 +709,6 @@ public final class PromisesTest {
         shortest();
         count();
         digest();
-        System.out.println(wrong == 0 ? "all answers are as due" : wrong + " answers are not as due");
-        if (wrong != 0) {
-            System.exit(1);
-        }
+        end();
     }
 }
