@@ -710,19 +710,6 @@ public final class EdgesTest extends NetTest {
         }
     }
 
-    /** The net whose lines are the bits of a number. */
-    private static PostProofs netOf(int n, int lines) {
-        PostProofs x = net(n);
-        int bit = 0;
-        for (int p = 0; p < n; p++) {
-            for (int q = 0; q < p; q++) {
-                x.line(p, q, (lines >> bit & 1) == 1);
-                bit++;
-            }
-        }
-        return x;
-    }
-
     private static void dueWays(String what, int byLongest, int all) {
         PostProofs x = path(3);
         for (int done = 0; done < all - byLongest; done++) {

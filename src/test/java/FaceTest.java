@@ -9,7 +9,7 @@ import java.util.TreeSet;
 import java.util.regex.Matcher;
 import java.util.regex.Pattern;
 
-/** The public face of the class, and the rules of LANGUAGE.md that can be read off its text. */
+/** The public face of the class, and the rules of LANGUAGE.md that can be read off it. */
 public final class FaceTest {
     private static final String[] METHODS = {
         "int posts(int)", "int line(int,int,boolean)", "int mark(int,int)", "int scheme(int)", "int holds()",
@@ -76,6 +76,38 @@ public final class FaceTest {
         due("names of inner methods that are public ones too", privateNames, new TreeSet<String>());
     }
 
+    /** Rules 3, 5 and 11: what a class may hold, and how much of it. */
+    private static void checkSize(Class<?> c) {
+        int fields = 0;
+        for (Field f : c.getDeclaredFields()) {
+            boolean shared = Modifier.isStatic(f.getModifiers());
+            fields += shared ? 0 : 1;
+            due(c.getSimpleName() + "." + f.getName() + " as a static field that is not final",
+                shared && !Modifier.isFinal(f.getModifiers()), false);
+            due(c.getSimpleName() + "." + f.getName() + "'s type's being one of the rules",
+                isLawful(f.getType()), true);
+        }
+        due(c.getSimpleName() + "'s having more than twenty fields", fields > 20, false);
+        for (Method m : c.getDeclaredMethods()) {
+            due(c.getSimpleName() + "." + m.getName() + "'s taking more than seven parameters",
+                m.getParameterCount() > 7, false);
+        }
+    }
+
+    private static boolean isLawful(Class<?> type) {
+        boolean own = type.getEnclosingClass() == PostProofs.class;
+        return own || type.isPrimitive() || type.isArray() && isLawful(type.getComponentType());
+    }
+
+    private static void checkSizes() {
+        Class<?>[] inside = PostProofs.class.getDeclaredClasses();
+        due("having more than twelve classes", inside.length + 1 > 12, false);
+        checkSize(PostProofs.class);
+        for (Class<?> c : inside) {
+            checkSize(c);
+        }
+    }
+
     private static void checkText() throws Exception {
         String text = Files.readString(Path.of("src/main/java/PostProofs.java"));
         String code = text.replaceAll("(?s)/\\*.*?\\*/", " ").replaceAll("//[^\n]*", " ");
@@ -92,6 +124,7 @@ public final class FaceTest {
 
     public static void main(String[] args) throws Exception {
         checkFace();
+        checkSizes();
         checkText();
         System.out.println(wrong == 0 ? "the face is as due" : wrong + " things are not as due");
         if (wrong != 0) {

@@ -453,6 +453,8 @@ public final class PromisesTest extends NetTest {
         due("numbers() of two colours", with(path(3), 0).numbers(), 2);
         due("numbers() where two do", with(path(3), 1).numbers(), 2);
         due("numbers() of three colours", with(ring(5), 1).numbers(), 3);
+        // Two would do, but the first proof that stands is 0 0 1 2.
+        due("numbers() of the first one", with(net(4, 0, 2, 2, 3, 3, 1), 1).numbers(), 3);
         due("numbers() of a leader", with(path(8), 2, 0, 0, 0, 0, 0, 0, 0, 1).numbers(), 64);
         due("numbers() of leader 0", with(path(8), 2, 1).numbers(), 8);
         due("numbers() of scattered", with(path(3), 3, 0, 1, 0).numbers(), 1);

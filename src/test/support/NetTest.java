@@ -55,6 +55,19 @@ abstract class NetTest {
         return x;
     }
 
+    /** The net whose lines are the bits of a number. */
+    static PostProofs netOf(int n, int lines) {
+        PostProofs x = net(n);
+        int bit = 0;
+        for (int p = 0; p < n; p++) {
+            for (int q = 0; q < p; q++) {
+                x.line(p, q, (lines >> bit & 1) == 1);
+                bit++;
+            }
+        }
+        return x;
+    }
+
     static PostProofs with(PostProofs x, int scheme, int... marks) {
         x.scheme(scheme);
         for (int p = 0; p < marks.length; p++) {
