@@ -180,9 +180,10 @@ public final class PostProofs {
         if (t < 0 || t > TENTHS || part < 0 || part > 1) {
             return OUTSIDE;
         }
-        int common = commonDivisor(TENTHS - t, TENTHS);
-        long base = (part == 0 ? TENTHS - t : TENTHS) / common;
-        return power(base, Integer.bitCount(against()));
+        int below = lowestBelow(TENTHS - t);
+        int above = (TENTHS - t) * below / TENTHS;
+        // A power of a fraction in lowest terms is in lowest terms too.
+        return power(part == 0 ? above : below, Integer.bitCount(against()));
     }
 
     // ---- mending
@@ -303,13 +304,14 @@ public final class PostProofs {
         return product;
     }
 
-    private static int commonDivisor(int a, int b) {
-        for (int divisor = b; divisor > 1; divisor--) {
-            if (a % divisor == 0 && b % divisor == 0) {
-                return divisor;
+    /** What stands below so many tenths in lowest terms: the least of which they are a whole number. */
+    private static int lowestBelow(int tenths) {
+        for (int below = 1; below < TENTHS; below++) {
+            if (tenths * below % TENTHS == 0) {
+                return below;
             }
         }
-        return 1;
+        return TENTHS;
     }
 
     /** The posts, their lines and marks. */
