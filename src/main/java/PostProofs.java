@@ -499,20 +499,21 @@ public final class PostProofs {
             this.wanted = wanted;
             standing = 0;
             found = false;
-            place(0);
+            place(this, 0);
         }
 
-        private void place(int p) {
-            if (!net.has(p)) {
-                found = standing == wanted;
-                standing++;
+        /** Static, as the language rules want a method that calls itself; p is how deep it stands, 8 at most. */
+        private static void place(Trial trial, int p) {
+            if (!trial.net.has(p)) {
+                trial.found = trial.standing == trial.wanted;
+                trial.standing++;
                 return;
             }
-            for (int number = 0; number < below && !found; number++) {
-                if (Judge.suits(net, schemeTried, p, number)) {
-                    numbers[p] = number;
-                    if (stillStands(p)) {
-                        place(p + 1);
+            for (int number = 0; number < trial.below && !trial.found; number++) {
+                if (Judge.suits(trial.net, trial.schemeTried, p, number)) {
+                    trial.numbers[p] = number;
+                    if (trial.stillStands(p)) {
+                        place(trial, p + 1);
                     }
                 }
             }
